@@ -1,4 +1,7 @@
-/** Counts the answers of one test that are not due, and prints each. */
+/**
+ * Counts the answers of one test that are not due, and prints each. To see that nothing else changed, tests look at
+ * all of a council often, and so pass the 512 calls that the document promises for: the class counts no calls.
+ */
 final class Check {
     interface Call {
         void run();

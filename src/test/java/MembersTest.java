@@ -130,22 +130,22 @@ public final class MembersTest {
     }
 
     private static void majorityOfOld() {
-        QuorumCouncil c = new QuorumCouncil(0, 1);
         for (int old = 1; old < 128; old++) {
-            c.members(old, 0, 0);
+            QuorumCouncil c = new QuorumCouncil(0, old);
             for (int set = 0; set < 128; set++) {
                 check.due("majority of " + set + " in " + old, c.majority(set), moreThanHalf(set, old));
             }
         }
         for (int w : new int[] {-1, 128, 129, Integer.MIN_VALUE, Integer.MAX_VALUE}) {
+            QuorumCouncil c = new QuorumCouncil(0, 7);
             check.refuses("majority of " + w, c, IllegalArgumentException.class, () -> c.majority(w));
         }
     }
 
     private static void majorityOfBoth() {
-        QuorumCouncil c = new QuorumCouncil(0, 1);
         for (int old = 1; old < 128; old += 3) {
             for (int fresh = 1; fresh < 128; fresh++) {
+                QuorumCouncil c = new QuorumCouncil(0, 1);
                 c.members(old, fresh, 0);
                 for (int set = 0; set < 128; set++) {
                     check.due("majority of " + set + " in " + old + " and " + fresh, c.majority(set),
