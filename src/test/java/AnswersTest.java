@@ -140,34 +140,32 @@ public final class AnswersTest {
     }
 
     private static void wrongServers() {
-        QuorumCouncil c = leading();
         for (int w : new int[] {-1, 7, 8, 32, Integer.MIN_VALUE, Integer.MAX_VALUE}) {
             Class<IndexOutOfBoundsException> due = IndexOutOfBoundsException.class;
-            check.refuses("matched of " + w, c, due, () -> c.matched(w, 1, 1, 1));
-            check.refuses("refused of " + w, c, due, () -> c.refused(w, 1, 1, 1, 1));
-            check.refuses("stored of " + w, c, due, () -> c.stored(w, 1, 1, 1, 1, 1));
-            check.refuses("matched, all wrong, of " + w, c, due, () -> c.matched(w, -1, -1, -1));
-            check.refuses("refused, all wrong, of " + w, c, due, () -> c.refused(w, -1, -1, -1, -1));
-            check.refuses("stored, all wrong, of " + w, c, due, () -> c.stored(w, -1, -1, -1, -1, -1));
+            check.refuses("matched of " + w, AnswersTest::leading, due, c -> c.matched(w, 1, 1, 1));
+            check.refuses("refused of " + w, AnswersTest::leading, due, c -> c.refused(w, 1, 1, 1, 1));
+            check.refuses("stored of " + w, AnswersTest::leading, due, c -> c.stored(w, 1, 1, 1, 1, 1));
+            check.refuses("matched, all wrong, of " + w, AnswersTest::leading, due, c -> c.matched(w, -1, -1, -1));
+            check.refuses("refused, all wrong, of " + w, AnswersTest::leading, due, c -> c.refused(w, -1, -1, -1, -1));
+            check.refuses("stored, all wrong, of " + w, AnswersTest::leading, due, c -> c.stored(w, -1, -1, -1, -1, -1));
         }
     }
 
     private static void wrongNumbers() {
-        QuorumCouncil c = leading();
         Class<IllegalArgumentException> due = IllegalArgumentException.class;
         for (int w : WRONG) {
-            check.refuses("matched number " + w, c, due, () -> c.matched(1, w, 1, 1));
-            check.refuses("matched round " + w, c, due, () -> c.matched(1, 1, w, 1));
-            check.refuses("matched now " + w, c, due, () -> c.matched(1, 1, 1, w));
-            check.refuses("refused from " + w, c, due, () -> c.refused(1, w, 1, 1, 1));
-            check.refuses("refused last " + w, c, due, () -> c.refused(1, 1, w, 1, 1));
-            check.refuses("refused round " + w, c, due, () -> c.refused(1, 1, 1, w, 1));
-            check.refuses("refused now " + w, c, due, () -> c.refused(1, 1, 1, 1, w));
-            check.refuses("stored bytes " + w, c, due, () -> c.stored(1, w, 1, 1, 1, 1));
-            check.refuses("stored size " + w, c, due, () -> c.stored(1, 1, w, 1, 1, 1));
-            check.refuses("stored base " + w, c, due, () -> c.stored(1, 1, 1, w, 1, 1));
-            check.refuses("stored round " + w, c, due, () -> c.stored(1, 1, 1, 1, w, 1));
-            check.refuses("stored now " + w, c, due, () -> c.stored(1, 1, 1, 1, 1, w));
+            check.refuses("matched number " + w, AnswersTest::leading, due, c -> c.matched(1, w, 1, 1));
+            check.refuses("matched round " + w, AnswersTest::leading, due, c -> c.matched(1, 1, w, 1));
+            check.refuses("matched now " + w, AnswersTest::leading, due, c -> c.matched(1, 1, 1, w));
+            check.refuses("refused from " + w, AnswersTest::leading, due, c -> c.refused(1, w, 1, 1, 1));
+            check.refuses("refused last " + w, AnswersTest::leading, due, c -> c.refused(1, 1, w, 1, 1));
+            check.refuses("refused round " + w, AnswersTest::leading, due, c -> c.refused(1, 1, 1, w, 1));
+            check.refuses("refused now " + w, AnswersTest::leading, due, c -> c.refused(1, 1, 1, 1, w));
+            check.refuses("stored bytes " + w, AnswersTest::leading, due, c -> c.stored(1, w, 1, 1, 1, 1));
+            check.refuses("stored size " + w, AnswersTest::leading, due, c -> c.stored(1, 1, w, 1, 1, 1));
+            check.refuses("stored base " + w, AnswersTest::leading, due, c -> c.stored(1, 1, 1, w, 1, 1));
+            check.refuses("stored round " + w, AnswersTest::leading, due, c -> c.stored(1, 1, 1, 1, w, 1));
+            check.refuses("stored now " + w, AnswersTest::leading, due, c -> c.stored(1, 1, 1, 1, 1, w));
         }
     }
 }

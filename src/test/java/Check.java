@@ -1,13 +1,18 @@
+import java.util.function.Consumer;
+import java.util.function.Supplier;
+
 /**
- * Counts the answers of one test that are not due, and prints each. To see that nothing else changed, tests look at
- * all of a council often, and so pass the 512 calls that the document promises for: the class counts no calls.
+ * Counts the answers of one test that are not due, and prints each. Looking at all of a council takes 64 calls, and
+ * the document promises nothing beyond 512 of one object: so what is refused is asked of a new object each time.
  */
 final class Check {
-    interface Call {
-        void run();
-    }
-
     private int wrong = 0;
+    private String sentence = "";
+
+    /** The document's words that the next checks are about, told with each of them that fails. */
+    void about(String words) {
+        sentence = words + ": ";
+    }
 
     void due(String call, long got, long want) {
         if (got != want) {
@@ -28,11 +33,13 @@ final class Check {
     }
 
     /** The call must throw just that class, and leave what the council shows as it was. */
-    void refuses(String call, QuorumCouncil council, Class<? extends RuntimeException> due, Call made) {
+    void refuses(String call, Supplier<QuorumCouncil> made, Class<? extends RuntimeException> due,
+            Consumer<QuorumCouncil> asked) {
+        QuorumCouncil council = made.get();
         String before = state(council);
         Class<?> thrown = null;
         try {
-            made.run();
+            asked.accept(council);
         } catch (RuntimeException e) {
             thrown = e.getClass();
         }
@@ -44,7 +51,7 @@ final class Check {
 
     void tell(String what) {
         wrong++;
-        System.out.println(what);
+        System.out.println(sentence + what);
     }
 
     void end() {

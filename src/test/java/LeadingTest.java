@@ -13,6 +13,14 @@ public final class LeadingTest {
         check.end();
     }
 
+    private static QuorumCouncil leading() {
+        QuorumCouncil c = new QuorumCouncil(3, 15);
+        c.lead(3, 3);
+        c.round();
+        c.own(4, 4);
+        return c;
+    }
+
     private static void leadBeginsAnew() {
         QuorumCouncil c = new QuorumCouncil(0, 7);
         c.members(7, 0, 8);
@@ -34,12 +42,9 @@ public final class LeadingTest {
     }
 
     private static void leadRefusesWrongNumbers() {
-        QuorumCouncil c = new QuorumCouncil(0, 7);
-        c.lead(3, 3);
-        c.round();
         for (int w : new int[] {-1, MOST + 1, Integer.MIN_VALUE, Integer.MAX_VALUE}) {
-            check.refuses("lead last " + w, c, IllegalArgumentException.class, () -> c.lead(w, 0));
-            check.refuses("lead now " + w, c, IllegalArgumentException.class, () -> c.lead(0, w));
+            check.refuses("lead last " + w, LeadingTest::leading, IllegalArgumentException.class, c -> c.lead(w, 0));
+            check.refuses("lead now " + w, LeadingTest::leading, IllegalArgumentException.class, c -> c.lead(0, w));
         }
     }
 
@@ -107,11 +112,9 @@ public final class LeadingTest {
     }
 
     private static void ownRefusesWrongNumbers() {
-        QuorumCouncil c = new QuorumCouncil(3, 15);
-        c.own(4, 4);
         for (int w : new int[] {-1, MOST + 1, Integer.MIN_VALUE, Integer.MAX_VALUE}) {
-            check.refuses("own number " + w, c, IllegalArgumentException.class, () -> c.own(w, 0));
-            check.refuses("own now " + w, c, IllegalArgumentException.class, () -> c.own(0, w));
+            check.refuses("own number " + w, LeadingTest::leading, IllegalArgumentException.class, c -> c.own(w, 0));
+            check.refuses("own now " + w, LeadingTest::leading, IllegalArgumentException.class, c -> c.own(0, w));
         }
     }
 }

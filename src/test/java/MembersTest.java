@@ -1,3 +1,5 @@
+import java.util.function.Supplier;
+
 /** Promises 1 to 5: a new object, members, change, settle, majority. */
 public final class MembersTest {
     private static final Check check = new Check();
@@ -5,6 +7,7 @@ public final class MembersTest {
     public static void main(String[] args) {
         newObject();
         members();
+        membersRefusesWrongSets();
         membersKeepsTheRest();
         change();
         changeNeedsTarget();
@@ -44,16 +47,20 @@ public final class MembersTest {
         check.due("all twice", Check.sets(c), "127 127 0 127 126 0 0 0");
         c.members(1, 0, 126);
         check.due("NEW empty", Check.sets(c), "1 0 126 1 126 0 0 0");
-        int[] wrong = {-1, 128, 255, Integer.MIN_VALUE, Integer.MAX_VALUE};
-        for (int w : wrong) {
-            check.refuses("members OLD " + w, c, IllegalArgumentException.class, () -> c.members(w, 0, 0));
-            check.refuses("members NEW " + w, c, IllegalArgumentException.class, () -> c.members(1, w, 0));
-            check.refuses("members LEARNERS " + w, c, IllegalArgumentException.class, () -> c.members(1, 0, w));
+    }
+
+    private static void membersRefusesWrongSets() {
+        Class<IllegalArgumentException> due = IllegalArgumentException.class;
+        Supplier<QuorumCouncil> made = () -> council(1, 0, 126);
+        for (int w : new int[] {-1, 128, 255, Integer.MIN_VALUE, Integer.MAX_VALUE}) {
+            check.refuses("members OLD " + w, made, due, c -> c.members(w, 0, 0));
+            check.refuses("members NEW " + w, made, due, c -> c.members(1, w, 0));
+            check.refuses("members LEARNERS " + w, made, due, c -> c.members(1, 0, w));
         }
-        check.refuses("OLD empty", c, IllegalArgumentException.class, () -> c.members(0, 0, 0));
-        check.refuses("OLD empty, NEW not", c, IllegalArgumentException.class, () -> c.members(0, 3, 0));
-        check.refuses("a learner of OLD", c, IllegalArgumentException.class, () -> c.members(3, 0, 6));
-        check.refuses("a learner of NEW", c, IllegalArgumentException.class, () -> c.members(3, 4, 12));
+        check.refuses("OLD empty", made, due, c -> c.members(0, 0, 0));
+        check.refuses("OLD empty, NEW not", made, due, c -> c.members(0, 3, 0));
+        check.refuses("a learner of OLD", made, due, c -> c.members(3, 0, 6));
+        check.refuses("a learner of NEW", made, due, c -> c.members(3, 4, 12));
     }
 
     private static void membersKeepsTheRest() {
@@ -69,64 +76,76 @@ public final class MembersTest {
         check.due("members there and back", Check.state(c), before);
     }
 
-    private static void change() {
+    private static QuorumCouncil council(int old, int fresh, int learners) {
         QuorumCouncil c = new QuorumCouncil(0, 1);
-        c.members(7, 0, 120);
+        c.members(old, fresh, learners);
+        return c;
+    }
+
+    /** Of the learners 3 to 6, 3 has up to 5 and 4 up to 6. */
+    private static QuorumCouncil withLearners() {
+        QuorumCouncil c = council(7, 0, 120);
         c.lead(9, 0);
         c.matched(3, 5, 0, 0);
         c.matched(4, 6, 0, 0);
-        check.refuses("one short of least", c, IllegalArgumentException.class, () -> c.change(24, 6));
-        check.refuses("a learner with nothing", c, IllegalArgumentException.class, () -> c.change(56, 5));
+        return c;
+    }
+
+    private static void change() {
+        QuorumCouncil c = withLearners();
         c.change(25, 5);
         check.due("change", Check.sets(c), "7 25 96 31 126 0 0 0");
         QuorumCouncil d = new QuorumCouncil(0, 7);
         d.change(3, Integer.MAX_VALUE);
         check.due("those of OLD need no MATCH", Check.sets(d), "7 3 0 7 6 0 0 0");
-        QuorumCouncil e = new QuorumCouncil(0, 1);
-        e.members(1, 0, 126);
+        QuorumCouncil e = council(1, 0, 126);
         e.change(127, Integer.MIN_VALUE);
         check.due("least below all", Check.sets(e), "1 127 0 127 126 0 0 0");
         QuorumCouncil f = new QuorumCouncil(0, 7);
         f.change(7, 0);
         check.due("a change to the same", Check.sets(f), "7 7 0 7 6 0 0 0");
-        QuorumCouncil g = new QuorumCouncil(6, 7);
-        check.refuses("itself outside", g, IllegalArgumentException.class, () -> g.change(67, 0));
     }
 
     private static void changeNeedsTarget() {
-        QuorumCouncil c = new QuorumCouncil(0, 127);
+        Class<IllegalArgumentException> due = IllegalArgumentException.class;
         for (int w : new int[] {0, -1, 128, 129, Integer.MIN_VALUE, Integer.MAX_VALUE}) {
-            check.refuses("change to " + w, c, IllegalArgumentException.class, () -> c.change(w, 0));
+            check.refuses("change to " + w, () -> new QuorumCouncil(0, 127), due, c -> c.change(w, 0));
         }
-        c.members(7, 0, 8);
-        check.refuses("one who is nobody", c, IllegalArgumentException.class, () -> c.change(16, 0));
-        check.refuses("one of them nobody", c, IllegalArgumentException.class, () -> c.change(31, 0));
+        check.refuses("one who is nobody", () -> council(7, 0, 8), due, c -> c.change(16, 0));
+        check.refuses("one of them nobody", () -> council(7, 0, 8), due, c -> c.change(31, 0));
+        check.refuses("itself outside", () -> new QuorumCouncil(6, 7), due, c -> c.change(67, 0));
+        check.refuses("one short of least", MembersTest::withLearners, due, c -> c.change(24, 6));
+        check.refuses("a learner with nothing", MembersTest::withLearners, due, c -> c.change(56, 5));
     }
 
     private static void changeWhileOneIsUnderWay() {
-        QuorumCouncil c = new QuorumCouncil(0, 7);
-        c.members(7, 24, 32);
-        check.refuses("change", c, IllegalStateException.class, () -> c.change(7, 0));
-        check.refuses("change to a learner", c, IllegalStateException.class, () -> c.change(32, 0));
-        check.refuses("no target", c, IllegalArgumentException.class, () -> c.change(0, 0));
-        check.refuses("a target of nobody", c, IllegalArgumentException.class, () -> c.change(64, 0));
-        check.refuses("a target of NEW alone", c, IllegalArgumentException.class, () -> c.change(8, 0));
-        check.refuses("a learner who has too little", c, IllegalArgumentException.class, () -> c.change(32, 1));
+        Class<IllegalArgumentException> wrong = IllegalArgumentException.class;
+        Supplier<QuorumCouncil> made = () -> council(7, 24, 32);
+        check.refuses("change", made, IllegalStateException.class, c -> c.change(7, 0));
+        check.refuses("change to a learner", made, IllegalStateException.class, c -> c.change(32, 0));
+        check.refuses("no target", made, wrong, c -> c.change(0, 0));
+        check.refuses("a target of nobody", made, wrong, c -> c.change(64, 0));
+        check.refuses("a target of NEW alone", made, wrong, c -> c.change(8, 0));
+        check.refuses("a learner who has too little", made, wrong, c -> c.change(32, 1));
     }
 
     private static void settle() {
-        QuorumCouncil c = new QuorumCouncil(1, 7);
-        check.refuses("settle", c, IllegalStateException.class, () -> c.settle());
-        c.members(7, 10, 64);
-        check.due("settle with itself", c.settle(), true);
-        check.due("after it", Check.sets(c), "10 0 64 10 72 0 0 1");
-        check.refuses("settle again", c, IllegalStateException.class, () -> c.settle());
+        check.due("after it", Check.sets(settled()), "10 0 64 10 72 0 0 1");
+        check.refuses("settle", () -> new QuorumCouncil(1, 7), IllegalStateException.class, c -> c.settle());
+        check.refuses("settle again", MembersTest::settled, IllegalStateException.class, c -> c.settle());
+        QuorumCouncil c = settled();
         c.change(8, 0);
         check.due("settle without itself", c.settle(), false);
         check.due("after that", Check.sets(c), "8 0 64 8 72 0 0 1");
-        QuorumCouncil d = new QuorumCouncil(0, 1);
-        d.members(1, 2, 0);
+        QuorumCouncil d = council(1, 2, 0);
         check.due("itself was in OLD before", d.settle(), false);
+    }
+
+    private static QuorumCouncil settled() {
+        QuorumCouncil c = new QuorumCouncil(1, 7);
+        c.members(7, 10, 64);
+        check.due("settle with itself", c.settle(), true);
+        return c;
     }
 
     private static void majorityOfOld() {
@@ -137,8 +156,8 @@ public final class MembersTest {
             }
         }
         for (int w : new int[] {-1, 128, 129, Integer.MIN_VALUE, Integer.MAX_VALUE}) {
-            QuorumCouncil c = new QuorumCouncil(0, 7);
-            check.refuses("majority of " + w, c, IllegalArgumentException.class, () -> c.majority(w));
+            check.refuses("majority of " + w, () -> new QuorumCouncil(0, 7), IllegalArgumentException.class,
+                c -> c.majority(w));
         }
     }
 

@@ -97,26 +97,36 @@ public final class SendingTest {
     }
 
     private static void toPeersAlone() {
-        QuorumCouncil c = leading(10);
+        Class<IndexOutOfBoundsException> due = IndexOutOfBoundsException.class;
         for (int w : new int[] {0, 4, 5, 6, 7, -1, 33, Integer.MIN_VALUE, Integer.MAX_VALUE}) {
-            check.refuses("sending to " + w, c, IndexOutOfBoundsException.class, () -> c.sending(w, 0, 20, true));
-            check.refuses("sending wrong numbers to " + w, c, IndexOutOfBoundsException.class,
-                () -> c.sending(w, 5, -1, true));
+            check.refuses("sending to " + w, () -> leading(10), due, c -> c.sending(w, 0, 20, true));
+            check.refuses("sending wrong numbers to " + w, () -> leading(10), due, c -> c.sending(w, 5, -1, true));
         }
+        check.refuses("itself a learner", SendingTest::changing, due, c -> c.sending(0, 0, 20, true));
+        check.due("one of NEW", changing().sending(4, 0, 20, true), 6);
+        check.due("one of OLD", changing().sending(1, 0, 20, true), 6);
+        check.refuses("one of OLD no more", SendingTest::changed, due, c -> c.sending(1, 0, 20, true));
+    }
+
+    private static QuorumCouncil changing() {
+        QuorumCouncil c = leading(10);
         c.members(6, 16, 1);
-        check.refuses("itself a learner", c, IndexOutOfBoundsException.class, () -> c.sending(0, 0, 20, true));
-        check.due("one of NEW", c.sending(4, 0, 20, true), 6);
+        return c;
+    }
+
+    private static QuorumCouncil changed() {
+        QuorumCouncil c = changing();
         c.settle();
-        check.refuses("one of OLD no more", c, IndexOutOfBoundsException.class, () -> c.sending(1, 0, 20, true));
+        return c;
     }
 
     private static void wrongNumbers() {
-        QuorumCouncil c = leading(10);
+        Class<IllegalArgumentException> due = IllegalArgumentException.class;
         for (int w : new int[] {-1, MOST + 1, Integer.MIN_VALUE, Integer.MAX_VALUE}) {
-            check.refuses("base " + w, c, IllegalArgumentException.class, () -> c.sending(1, w, MOST, true));
-            check.refuses("last " + w, c, IllegalArgumentException.class, () -> c.sending(1, 0, w, true));
-            check.refuses("both " + w, c, IllegalArgumentException.class, () -> c.sending(1, w, w, true));
+            check.refuses("base " + w, () -> leading(10), due, c -> c.sending(1, w, MOST, true));
+            check.refuses("last " + w, () -> leading(10), due, c -> c.sending(1, 0, w, true));
+            check.refuses("both " + w, () -> leading(10), due, c -> c.sending(1, w, w, true));
         }
-        check.refuses("last below base", c, IllegalArgumentException.class, () -> c.sending(1, 20, 19, true));
+        check.refuses("last below base", () -> leading(10), due, c -> c.sending(1, 20, 19, true));
     }
 }

@@ -84,9 +84,9 @@ public final class ViewsTest {
     }
 
     private static void agreedRefusesAnother() {
-        QuorumCouncil c = filled(7, 0, 0);
         for (int w : new int[] {-1, 3, 4, Integer.MIN_VALUE, Integer.MAX_VALUE}) {
-            check.refuses("agreed(" + w + ")", c, IllegalArgumentException.class, () -> c.agreed(w));
+            check.refuses("agreed(" + w + ")", () -> filled(7, 0, 0), IllegalArgumentException.class,
+                c -> c.agreed(w));
         }
     }
 
@@ -111,13 +111,13 @@ public final class ViewsTest {
     }
 
     private static void serverRefusesWrongOnes() {
-        QuorumCouncil c = new QuorumCouncil(0, 7);
+        Class<IndexOutOfBoundsException> due = IndexOutOfBoundsException.class;
         for (int w : new int[] {-1, 7, 8, Integer.MIN_VALUE, Integer.MAX_VALUE}) {
-            check.refuses("server(" + w + ", 0)", c, IndexOutOfBoundsException.class, () -> c.server(w, 0));
+            check.refuses("server(" + w + ", 0)", () -> filled(7, 0, 0), due, c -> c.server(w, 0));
         }
         for (int w : new int[] {-1, 8, 9, Integer.MIN_VALUE, Integer.MAX_VALUE}) {
-            check.refuses("server(0, " + w + ")", c, IndexOutOfBoundsException.class, () -> c.server(0, w));
-            check.refuses("server(7, " + w + ")", c, IndexOutOfBoundsException.class, () -> c.server(7, w));
+            check.refuses("server(0, " + w + ")", () -> filled(7, 0, 0), due, c -> c.server(0, w));
+            check.refuses("server(7, " + w + ")", () -> filled(7, 0, 0), due, c -> c.server(7, w));
         }
     }
 
